@@ -1,0 +1,55 @@
+import java.util.function.Supplier;
+
+/** Holds answers against those that are due, prints the wrong ones, and ends the run with 1 if there was one. */
+final class Due {
+    static final String INDEX = "IndexOutOfBoundsException";
+    static final String ARGUMENT = "IllegalArgumentException";
+    static final String STATE = "IllegalStateException";
+
+    private final String test;
+    private int promise;
+    private int looked;
+    private int wrong;
+
+    Due(String test) {
+        this.test = test;
+    }
+
+    void promise(int number) {
+        promise = number;
+    }
+
+    void is(Object got, Object want) {
+        looked++;
+        if (!want.equals(got)) {
+            wrong++;
+            String where = StackWalker.getInstance().walk(frames -> frames
+                    .filter(frame -> !frame.getClassName().equals("Due"))
+                    .findFirst().map(frame -> "line " + frame.getLineNumber()).orElse("?"));
+            System.out.println(test + ", promise " + promise + ", " + where + ": " + got + ", due is " + want);
+        }
+    }
+
+    /** The call throws just this exception, and the object stands as it stood. */
+    void fails(Cutwalks x, String exception, Supplier<Object> call) {
+        long before = x.digest();
+        is(answer(call), "throws " + exception);
+        is(x.digest(), before);
+    }
+
+    /** What the call answers, or the name of what it throws. */
+    static Object answer(Supplier<Object> call) {
+        try {
+            return call.get();
+        } catch (RuntimeException thrown) {
+            return "throws " + thrown.getClass().getSimpleName();
+        }
+    }
+
+    void end() {
+        System.out.println(test + ": " + looked + " answers looked at, " + wrong + " wrong");
+        if (wrong != 0) {
+            System.exit(1);
+        }
+    }
+}
