@@ -111,7 +111,10 @@ public final class MakesTest {
         due.is(x.text(1, false), "1 2 3 4 5 6 9");
         due.is(x.ofWalk(2, 6), 0);
         due.is(x.ofWalk(1, 6), 0);
-        due.is(x.house(3), 2);
+        x.copy(0, 1);
+        x.row(1, 1, 1, 6);
+        due.is(six.of(x, 2), -9);
+        due.is(x.house(3), 3);
     }
 
     private static void pair() {
@@ -151,6 +154,9 @@ public final class MakesTest {
         due.is(x.ofWalk(2, 6), 0);
         due.is(x.through(2, 3, 1), -9);
         due.is(x.house(3), 2);
+        x.row(3, 3, 98, 2);
+        due.is(x.through(2, 0, 3), -9);
+        x.wipe(3);
         due.is(x.through(2, 0, 3), 0);
         due.is(x.through(3, 3, 3), 0);
         x.removeAt(1, 4);

@@ -268,6 +268,9 @@ public final class RowsTest {
         due.is(x.find(0, 3, true), 4);
         due.is(x.find(0, 1, false), 1);
         due.is(x.find(0, 1, true), 3);
+        x.change(0, 0, 8);
+        due.is(x.find(0, 8, true), 0);
+        x.change(0, 0, 3);
         due.is(x.find(0, 2, false), -1);
         due.is(x.find(0, 2, true), -1);
         due.is(x.find(0, -1, false), -1);
@@ -353,6 +356,11 @@ public final class RowsTest {
         x.wipe(3);
         fill(x, 3, 2, 3);
         due.is(x.isWithin(3, 1), true);
+        // What was taken out of the end is not there any more.
+        x.copy(3, 1);
+        x.removeAt(1, 4);
+        due.is(x.isWithin(3, 1), false);
+        due.is(x.isWithin(1, 3), true);
         due.fails(x, Due.INDEX, () -> x.isWithin(4, 0));
         due.fails(x, Due.INDEX, () -> x.isWithin(0, 4));
         due.fails(x, Due.INDEX, () -> x.isWithin(-1, 0));
