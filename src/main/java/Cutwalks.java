@@ -650,7 +650,7 @@ public final class Cutwalks {
         }
 
         int itemAt(int place) {
-            return isPlace(place) ? items[place] : NONE;
+            return place >= 0 && place < many ? items[place] : NONE;
         }
 
         void putAt(int place, int item) {
@@ -666,7 +666,11 @@ public final class Cutwalks {
         }
 
         void append(int item) {
-            putAt(many, item);
+            if (many < ROOM) {
+                items[many] = item;
+                many++;
+                state++;
+            }
         }
 
         int takeAt(int place) {
@@ -774,7 +778,15 @@ public final class Cutwalks {
         }
 
         boolean isSameAs(Row other) {
-            return comparedWith(other) == 0;
+            if (many != other.many) {
+                return false;
+            }
+            for (int place = 0; place < many; place++) {
+                if (items[place] != other.items[place]) {
+                    return false;
+                }
+            }
+            return true;
         }
 
         boolean standsIn(Row other) {
