@@ -7,7 +7,7 @@ final class Due {
     static final String STATE = "IllegalStateException";
 
     private final String test;
-    private int promise;
+    private String part = "";
     private int looked;
     private int wrong;
 
@@ -16,7 +16,16 @@ final class Due {
     }
 
     void promise(int number) {
-        promise = number;
+        part("promise " + number);
+    }
+
+    /** Of which part of the document the answers that follow are. */
+    void part(String name) {
+        part = name;
+    }
+
+    int looked() {
+        return looked;
     }
 
     void is(Object got, Object want) {
@@ -26,7 +35,7 @@ final class Due {
             String where = StackWalker.getInstance().walk(frames -> frames
                     .filter(frame -> !frame.getClassName().equals("Due"))
                     .findFirst().map(frame -> "line " + frame.getLineNumber()).orElse("?"));
-            System.out.println(test + ", promise " + promise + ", " + where + ": " + got + ", due is " + want);
+            System.out.println(test + ", " + part + ", " + where + ": " + got + ", due is " + want);
         }
     }
 
