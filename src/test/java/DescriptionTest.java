@@ -16,6 +16,7 @@ public final class DescriptionTest {
         forthAndBack();
         putTakeChange();
         broken();
+        staysStale();
         notBroken();
         mergedAndWeaved();
         pairedThroughSifted();
@@ -268,14 +269,14 @@ public final class DescriptionTest {
 
     private static void exceptions() {
         told.description("A method that throws an exception changes nothing", () -> {
-            Cutwalks x = withoutWalkThree();
-            x.knock();
-            String before = Sentences.all(x);
             for (Thrown thrown : EACH_EXCEPTION) {
+                Cutwalks x = withoutWalkThree();
+                x.knock();
+                String before = Sentences.all(x);
                 told.fails(x, thrown.exception(), () -> thrown.call().apply(x));
                 told.is(Sentences.all(x), before);
+                told.is(x.house(4), 1);
             }
-            told.is(x.house(4), 1);
         });
         told.description("If several exceptions apply, the one that is named first is thrown", () -> {
             Cutwalks x = withoutWalkThree();
@@ -634,6 +635,47 @@ public final class DescriptionTest {
             x.forth(0);
             x.round(0);
             told.is(stale(x), "1000");
+        });
+    }
+
+    /** Each of these breaks a ROW 0 of three ITEMS for WALK 0, by putting in, taking out or becoming. */
+    private static final List<Function<Cutwalks, Object>> BREAKING = List.of(
+            x -> x.put(0, 9),
+            x -> x.insert(0, 0, 9),
+            x -> x.size(0) == 0 ? x.put(0, 9) : x.removeAt(0, 0),
+            x -> x.wipe(0),
+            x -> x.copy(0, 0),
+            x -> x.row(0, 3, 1, 2),
+            x -> x.add(3, 9),
+            x -> x.remove(3),
+            x -> x.thin(3, 1, 0),
+            x -> x.merge(0, 0, 2),
+            x -> x.part(0, 0, 0, 0),
+            x -> x.sift(0, 1, 0),
+            x -> x.roll(0, 1),
+            x -> x.pass(0, 1, 99),
+            x -> x.pass(1, 0, 99));
+
+    /** Two of them, one behind the other, or with calls between, do not mend what the first one broke. */
+    private static void staysStale() {
+        told.description(2, "it is STALE from then on", () -> {
+            for (Function<Cutwalks, Object> first : BREAKING) {
+                for (Function<Cutwalks, Object> second : BREAKING) {
+                    Cutwalks x = Sentences.rows("3 1 4", "5 6");
+                    x.open(0, 0, 1);
+                    x.open(3, 0, 0);
+                    x.forth(3);
+                    first.apply(x);
+                    told.is(x.ofWalk(0, 6), 1);
+                    x.open(3, 0, 0);
+                    x.forth(3);
+                    second.apply(x);
+                    told.is(x.ofWalk(0, 6), 1);
+                    second.apply(x);
+                    told.is(x.ofWalk(0, 6), 1);
+                    told.is(x.forth(0), -9);
+                }
+            }
         });
     }
 

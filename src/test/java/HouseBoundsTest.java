@@ -73,13 +73,13 @@ public final class HouseBoundsTest {
         told.promise(45, "3 how often REFUSED was told", () -> {
             Cutwalks x = HOUSE.get();
             told.is(x.house(3), 0);
-            for (int times = 1; times <= 400; times++) {
+            for (int times = 1; times <= 200; times++) {
                 x.put(1, 0);
                 told.is(x.house(3), times);
             }
             told.is(x.forth(1), -1);
             told.fails(x, Due.ARGUMENT, () -> x.put(1, 100));
-            told.is(x.house(3), 400);
+            told.is(x.house(3), 200);
         });
         told.promise(45, "4 how often one knocked", () -> {
             Cutwalks x = HOUSE.get();
@@ -168,6 +168,16 @@ public final class HouseBoundsTest {
             Cutwalks x = Sentences.rows("1 4 7 10 13 16", "97", "0 2 3 5", Sentences.FULL);
             sound(x);
         });
+        told.promise(46, "and by 2 and 0, then 3 and 1, the same stays as by 3 and 1, then 2 and 0", () ->
+                sound(Sentences.rows("4 10 16 1 2 3", "0 6 7 9 13", "", "4")));
+        told.promise(46, "has as many ITEMS as both, and both are WITHIN both of these", () -> {
+            sound(Sentences.rows(Sentences.FULL, "", "9 8 7", "12 11 10 9 8 7 6 5 4 3 2 1"));
+            sound(Sentences.rows("5", "5", "5 5", ""));
+        });
+        told.promise(46, "if both RISE, what is MERGED does", () ->
+                sound(Sentences.rows(Sentences.FULL, "0 0 5 99", "", "2 1")));
+        told.promise(46, "PAIRED they are the same in either sequence", () ->
+                sound(Sentences.rows("99 99 1", "99 1", "", Sentences.FULL)));
         told.promise(46, "they are the SAME just if each is WITHIN the other one", () -> {
             sound(Sentences.rows("1 2", "1 2", "2 1", "1 2 1"));
             sound(Sentences.rows("", "", "0", "0 0"));

@@ -16,6 +16,7 @@ public final class RowBoundsTest {
         removeAt();
         change();
         wipe();
+        gone();
         copy();
         row();
         sizeAndAt();
@@ -176,6 +177,51 @@ public final class RowBoundsTest {
             told.outside(HOUSE.get(), Due.INDEX, Sentences.NO_SUCH, (x, row) -> x.removeAt(row, 0));
             told.is(HOUSE.get().removeAt(0, 0), 3);
             told.is(HOUSE.get().removeAt(3, 0), 7);
+        });
+    }
+
+    /** ROW 0 had 99 behind its ITEMS, ROW 2 had ITEMS. */
+    private static Cutwalks leftOver() {
+        Cutwalks x = Sentences.rows("5 1 5 99", "7", "4 4 0");
+        x.removeAt(0, 3);
+        x.wipe(2);
+        return x;
+    }
+
+    /** What went is not there any more, for whatever is asked or made then. */
+    private static void gone() {
+        told.promise(4, "An ITEM goes", () -> {
+            Cutwalks x = leftOver();
+            told.is(Sentences.text(x), "5 1 5/7//");
+            told.is(x.digest(), Sentences.rows("5 1 5", "7").digest());
+            told.is(x.sum(0), 11);
+            told.is(x.count(0, 99), 0);
+            told.is(x.find(0, 99, false), -1);
+            told.is(x.find(0, 99, true), -1);
+            told.is(x.find(0, 5, true), 2);
+        });
+        told.promise(4, "An ITEM goes", () -> {
+            told.is(leftOver().sift(0, 100, 99), 0);
+            told.is(leftOver().pass(0, 1, 2), 1);
+            told.is(leftOver().pass(0, 1, 6), 3);
+            told.is(leftOver().merge(1, 0, 0), 6);
+            told.is(leftOver().weave(1, 0, 1), 4);
+            told.is(leftOver().pair(1, 0, 0), 3);
+            told.is(leftOver().open(0, 0, 3), 0);
+        });
+        told.promise(6, "All ITEMS go", () -> {
+            Cutwalks x = leftOver();
+            told.is(x.sum(2), 0);
+            told.is(x.count(2, 4), 0);
+            told.is(x.find(2, 4, true), -1);
+            told.is(x.isRising(2), true);
+            told.is(x.single(2), 0);
+            told.is(x.round(2), -1);
+            told.is(x.roll(2, 1), -1);
+            told.is(x.pass(2, 1, 99), 0);
+            told.is(x.through(3, 2, 2), 0);
+            told.is(x.put(2, 8), 1);
+            told.is(x.text(2, false), "8");
         });
     }
 
@@ -350,6 +396,10 @@ public final class RowBoundsTest {
             told.is(x.find(0, 1, true), 11);
             told.is(x.find(0, 3, false), 4);
             told.is(x.find(0, 3, true), 4);
+            told.is(Sentences.rows("3 1").find(0, 3, true), 0);
+            told.is(Sentences.rows("3 1").find(0, 3, false), 0);
+            told.is(Sentences.rows("3").find(0, 3, true), 0);
+            told.is(Sentences.rows("3").find(0, 3, false), 0);
         });
         told.promise(12, "NONE without", () -> {
             Cutwalks x = HOUSE.get();
