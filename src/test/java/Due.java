@@ -1,3 +1,5 @@
+import java.lang.reflect.InvocationTargetException;
+import java.lang.reflect.Method;
 import java.util.function.Supplier;
 
 /** Holds answers against those that are due, prints the wrong ones, and ends the run with 1 if there was one. */
@@ -52,6 +54,17 @@ final class Due {
             return call.get();
         } catch (RuntimeException thrown) {
             return "throws " + thrown.getClass().getSimpleName();
+        }
+    }
+
+    /** As above, of a call that is told by its method and its arguments. */
+    static Object answer(Cutwalks x, Method call, Object... given) {
+        try {
+            return call.invoke(x, given);
+        } catch (InvocationTargetException thrown) {
+            return "throws " + thrown.getCause().getClass().getSimpleName();
+        } catch (IllegalAccessException closed) {
+            return "not open: " + call;
         }
     }
 

@@ -1,4 +1,3 @@
-import java.lang.reflect.InvocationTargetException;
 import java.lang.reflect.Method;
 import java.lang.reflect.Modifier;
 import java.util.ArrayList;
@@ -14,7 +13,7 @@ public final class ModelTest {
     // The same numbers in each run of this test: a fixed rule, not chance.
     private static long seed;
 
-    public static void main(String[] args) throws IllegalAccessException {
+    public static void main(String[] args) {
         List<Method> calls = new ArrayList<>();
         for (Method method : Cutwalks.class.getDeclaredMethods()) {
             if (Modifier.isPublic(method.getModifiers())) {
@@ -31,7 +30,7 @@ public final class ModelTest {
         System.out.println("ModelTest: " + RUNS + " runs of " + 2 * CALLS + " calls are as the model's");
     }
 
-    private static boolean isRunRight(int run, List<Method> calls) throws IllegalAccessException {
+    private static boolean isRunRight(int run, List<Method> calls) {
         Cutwalks x = new Cutwalks();
         Model model = new Model();
         // Few kinds of item make ROWS that are alike in much; many kinds make all the others.
@@ -53,7 +52,7 @@ public final class ModelTest {
         return true;
     }
 
-    private static Object answer(Cutwalks x, Method call, int[] arguments) throws IllegalAccessException {
+    private static Object answer(Cutwalks x, Method call, int[] arguments) {
         Object[] given = new Object[arguments.length];
         for (int i = 0; i < given.length; i++) {
             if (call.getParameterTypes()[i] == boolean.class) {
@@ -62,11 +61,7 @@ public final class ModelTest {
                 given[i] = arguments[i];
             }
         }
-        try {
-            return call.invoke(x, given);
-        } catch (InvocationTargetException thrown) {
-            return "throws " + thrown.getCause().getClass().getSimpleName();
-        }
+        return Due.answer(x, call, given);
     }
 
     private static int next(int bound) {
